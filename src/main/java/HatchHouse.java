@@ -7,7 +7,7 @@ public final class HatchHouse {
     private static final int NULL = 1, INDEX = 2, CAST = 3, SIZE = 4, STORE = 5, ZERO = 6, STATE = 7, SPENT = 30;
     private static final int NOTHING = -1, ROW = 0, GRID = 1, NET = 2, FISH = 3, CARD = 4;
     private static final int TRUTHS = 0, BYTES = 1, SHORTS = 2, CHARS = 3, INTS = 4, LONGS = 5, FLOATS = 6, DOUBLES = 7;
-    private static final int MOST_THINGS = 120, MOST_ITEMS = 16, MOST_PLACES = 8;
+    private static final int MOST_THINGS = 120, MOST_ITEMS = 16, MOST_PLACES = 8, MOST_EGGS = 0x7fffffff;
     private static final int TANKS = 6, PLANS = 4, CAUSES = 4;
     private static final int FIELDS = 11, NEXT = 8, BOUND_FISH = 10;
     private static final int GRAMS = 0, MOTHER = 1, FATHER = 2, FISH_CELLS = 3;
@@ -368,7 +368,7 @@ public final class HatchHouse {
         if (no != 0) return refused(no);
         Thing items = stock.trayOf(tanks[tank].grid, tray);
         long then = picked ? items.cells[cell] - n : items.cells[cell] + n;
-        if (picked ? then < 0 : then > Integer.MAX_VALUE) return refused(LACK);
+        if (picked ? then < 0 : then > MOST_EGGS) return refused(LACK);
         items.cells[cell] = then;
         return fine((int) then);
     }
@@ -1030,7 +1030,7 @@ public final class HatchHouse {
             return numbers[(many - 1) / 2];
         }
 
-        /** A number goes ahead of those above it, not of its likes. */
+        /** A number goes ahead of those above it, but not of its likes: they stay as they come. */
         private void sink(int from) {
             long number = numbers[from];
             int i = from;
@@ -1503,6 +1503,7 @@ public final class HatchHouse {
             int mark = plan.markFrom(begin + 1);
             int way = doSteps(plan, begin + 1, mark, depth);
             boolean open = way == FAILED && !isSpent(way);
+            // Each next mark is behind the one before.
             while (mark < plan.size && plan.is(mark, Plan.CATCH)) {
                 int next = plan.markFrom(mark + 1);
                 if (open && plan.takes(mark, failure)) {
@@ -1572,8 +1573,8 @@ public final class HatchHouse {
             if (no != 0) return no;
             int fish = stock.find(from).link(i);
             if (fish == NONE) return NULL;
-            // A place beyond an int is none of any NET, as -1 is.
-            int j = place < 0 || place > Integer.MAX_VALUE ? -1 : (int) place;
+            // One beyond an int would come round to another place as an int, so all that no NET has are -1.
+            int j = place < 0 || place >= MOST_PLACES ? -1 : (int) place;
             Thing goal = stock.find(to);
             no = goal.noPlace(NET, j);
             if (no != 0) return no;
