@@ -1317,9 +1317,14 @@ public final class HatchHouse {
         /** The place behind a STEP, or behind the BLOCK that begins there. */
         int behind(int i) {
             if (!is(i, BEGIN)) return i + 1;
-            int mark = markFrom(i + 1);
-            while (mark < size && !is(mark, END)) mark = markFrom(mark + 1);
-            return mark + 1;
+            int depth = 1;
+            int end = i;
+            while (depth > 0 && end < size - 1) {
+                end++;
+                if (is(end, BEGIN)) depth++;
+                if (is(end, END)) depth--;
+            }
+            return end + 1;
         }
 
         boolean takes(int i, int failure) {
@@ -1452,7 +1457,11 @@ public final class HatchHouse {
         private int doSteps(Plan plan, int from, int to, int depth) {
             int holdsAhead = holds;
             int way = depth > DEEPEST ? spend() : ON;
-            for (int i = from; i < to && way == ON; i = plan.behind(i)) way = doStep(plan, i, depth);
+            int i = from;
+            for (int n = 0; n < Plan.MOST && i < to && way == ON; n++) {
+                way = doStep(plan, i, depth);
+                i = plan.behind(i);
+            }
             letGo(holdsAhead);
             return way;
         }
@@ -1503,8 +1512,7 @@ public final class HatchHouse {
             int mark = plan.markFrom(begin + 1);
             int way = doSteps(plan, begin + 1, mark, depth);
             boolean open = way == FAILED && !isSpent(way);
-            // Each next mark is behind the one before.
-            while (mark < plan.size && plan.is(mark, Plan.CATCH)) {
+            for (int n = 0; n < Plan.MOST && plan.is(mark, Plan.CATCH); n++) {
                 int next = plan.markFrom(mark + 1);
                 if (open && plan.takes(mark, failure)) {
                     open = false;
