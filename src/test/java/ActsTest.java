@@ -1,11 +1,11 @@
 /** Promises 48 to 53: acts. */
 public final class ActsTest {
-    /** Row 0 (ints), card 1, trout 2, char 3, net 4 (of trout), net 5 (of all) with both, row 6 in grid 7 of tank 0, row 8 (longs). */
+    /** Row 0 (ints), card 1, trout 2, char 3, nets 4 (of trout), 5 (of all) with both, row 6 in grid 7 of tank 0, row 8 (longs). */
     private static final String HOUSE = "row 4 3 = 0; card = 1; fish 1 10 -1 -1 = 2; fish 3 20 -1 -1 = 3; net 1 2 = 4; "
         + "net 0 2 = 5; putIn 5 0 2 = 1; putIn 5 1 3 = 1; grid 4 1 2 = 7; trays 0 7 = 1; row 5 1 = 8";
 
-    private static HatchHouse house(String name, String... lines) {
-        return Script.on(Script.run(name, HOUSE), name, lines);
+    private static void house(String name, String... lines) {
+        Script.run(name, HOUSE, String.join("; ", lines));
     }
 
     public static void main(String[] args) {
@@ -37,12 +37,15 @@ public final class ActsTest {
             "step 0 3 5 9 9 0 = 6; step 0 3 6 0 0 0 = -1; step 0 3 -1 0 0 0 = -1; step 0 4 8 0 0 0 = 7; step 0 4 -1 0 0 0 = 8",
             "step 0 4 9 0 0 0 = -1; step 0 5 0 0 0 0 = 9; step 0 5 6 0 0 0 = -1; step 0 5 -1 0 0 0 = -1");
         house("48 step failures", "step 1 6 1 0 0 0 = 0; step 1 6 6 0 0 0 = 1; step 1 6 20 0 0 0 = 2; step 1 6 29 0 0 0 = 3",
-            "step 1 6 0 0 0 0 = -1; step 1 6 7 0 0 0 = -1; step 1 6 19 0 0 0 = -1; step 1 6 30 0 0 0 = -1; step 1 6 -1 0 0 0 = -1",
+            "step 1 6 0 0 0 0 = -1; step 1 6 7 0 0 0 = -1; step 1 6 19 0 0 0 = -1; step 1 6 30 0 0 0 = -1; "
+                + "step 1 6 -1 0 0 0 = -1",
             "step 1 8 -1 0 0 0 = 4; step 1 8 1 0 0 0 = 5; step 1 8 7 0 0 0 = 6; step 1 8 20 0 0 0 = 7; step 1 8 29 0 0 0 = 8",
-            "step 1 8 0 0 0 0 = -1; step 1 8 8 0 0 0 = -1; step 1 8 19 0 0 0 = -1; step 1 8 30 0 0 0 = -1; step 1 8 -2 0 0 0 = -1",
+            "step 1 8 0 0 0 0 = -1; step 1 8 8 0 0 0 = -1; step 1 8 19 0 0 0 = -1; step 1 8 30 0 0 0 = -1; "
+                + "step 1 8 -2 0 0 0 = -1",
             "failed = -1");
         house("48 step plans", "step 0 11 0 0 0 0 = -1; step 0 11 -1 0 0 0 = -1; step 1 11 0 0 0 0 = 0; step 1 11 1 0 0 0 = -1",
-            "step 3 11 2 0 0 0 = 0; step 3 11 3 0 0 0 = -1; step 4 7 0 0 0 0 = -1; step -1 7 0 0 0 0 = -1; step 0 13 0 0 0 0 = -1",
+            "step 3 11 2 0 0 0 = 0; step 3 11 3 0 0 0 = -1; step 4 7 0 0 0 0 = -1; step -1 7 0 0 0 0 = -1; "
+                + "step 0 13 0 0 0 0 = -1",
             "step 0 -1 0 0 0 0 = -1; step 0 7 99 99 99 99 = 0; step 0 9 99 99 99 99 = 1; step 0 10 -9 -9 -9 -9 = 2",
             "step 0 12 99 99 99 99 = 3; count 3 = 4; count 4 = 1; count 5 = 0; count 6 = 1");
         house("48 step full", "24 * step 2 12 0 0 0 0 = #", "step 2 12 0 0 0 0 = -2; failed = -2; step 2 6 0 0 0 0 = -1",
@@ -75,10 +78,12 @@ public final class ActsTest {
 
     private static void plainSteps() {
         house("50 put", "step 0 0 0 1 0 0x100000005 = 0; act 0 = 1; get 0 1 = 5; wipe 0 = 1; step 0 0 -1 9 0 1 = 0; act 0 = -11",
-            "failed = 1; wipe 0 = 1; step 0 0 1 9 0 1 = 0; act 0 = -13; wipe 0 = 1; step 0 0 0 3 0 1 = 0; act 0 = -12; wipe 0 = 1",
+            "failed = 1; wipe 0 = 1; step 0 0 1 9 0 1 = 0; act 0 = -13; wipe 0 = 1; step 0 0 0 3 0 1 = 0; act 0 = -12; "
+                + "wipe 0 = 1",
             "step 0 0 0 -1 0 1 = 0; act 0 = -12");
         house("50 raise", "step 0 1 1 1 0 200 = 0; step 0 1 1 7 0 3 = 1; step 0 1 1 6 0 1 = 2; act 0 = 1; field 1 1 = -56",
-            "field 1 7 = 3.0d; field 1 6 = 1.0f; act 0 = 1; field 1 1 = -112; field 1 7 = 6.0d; wipe 0 = 3; step 0 1 -1 0 0 1 = 0",
+            "field 1 7 = 3.0d; field 1 6 = 1.0f; act 0 = 1; field 1 1 = -112; field 1 7 = 6.0d; wipe 0 = 3; "
+                + "step 0 1 -1 0 0 1 = 0",
             "act 0 = -11; wipe 0 = 1; step 0 1 0 0 0 1 = 0; act 0 = -13; wipe 0 = 1; step 0 1 1 0 0 1 = 0; act 0 = -13",
             "field 1 0 = 0");
         house("50 eggs", "step 0 3 0 0 1 9 = 0; act 0 = 1; get 6 1 = 9; put 6 1 max = 1; act 0 = 1; get 6 1 = -2147483640",
@@ -147,7 +152,8 @@ public final class ActsTest {
             "step 0 12 0 0 0 5 = 3; step 0 9 0 0 0 0 = 4; step 0 0 0 0 0 6 = 5; step 0 10 0 0 0 0 = 6; act 0 = 2; answer = 5",
             "acted 4 = 1; acted 5 = 0; get 0 0 = 6");
         house("50 last answers instead of an answer", "step 0 7 0 0 0 0 = 0; step 0 12 0 0 0 7 = 1; step 0 9 0 0 0 0 = 2",
-            "step 0 12 0 0 0 8 = 3; step 0 10 0 0 0 0 = 4; step 0 0 0 0 0 1 = 5; act 0 = 2; answer = 8; acted 5 = 0; get 0 0 = 0");
+            "step 0 12 0 0 0 8 = 3; step 0 10 0 0 0 0 = 4; step 0 0 0 0 0 1 = 5; act 0 = 2; answer = 8; acted 5 = 0; "
+                + "get 0 0 = 0");
         house("50 last answers instead of an end", "step 0 7 0 0 0 0 = 0; step 0 0 0 0 0 1 = 1; step 0 9 0 0 0 0 = 2",
             "step 0 12 0 0 0 8 = 3; step 0 10 0 0 0 0 = 4; step 0 0 0 0 0 2 = 5; act 0 = 2; answer = 8; get 0 0 = 1");
         house("50 last answers instead of a failure", "step 0 7 0 0 0 0 = 0; step 0 0 0 0 0 1 = 1; step 0 6 2 0 0 0 = 2",
@@ -224,13 +230,16 @@ public final class ActsTest {
     /** Plan 1 runs plan 0, of 23 plain steps, 12 times: 288 steps; plan 2 has the rest. */
     private static void spentBySteps() {
         String runs = "23 * step 0 1 1 5 0 1 = #; 12 * step 1 11 0 0 0 0 = #";
-        house("50 300 steps", runs, "11 * step 2 1 1 5 0 1 = #; step 2 11 1 0 0 0 = 11; act 2 = 1; acted 0 = 300; field 1 5 = 287",
+        house("50 300 steps", runs, "11 * step 2 1 1 5 0 1 = #; step 2 11 1 0 0 0 = 11; act 2 = 1; acted 0 = 300; "
+            + "field 1 5 = 287",
             "act 2 = 1; field 1 5 = 574");
         house("50 301 steps", runs, "step 2 4 0 0 0 0 = 0; step 2 5 4 0 0 0 = 1; step 2 7 0 0 0 0 = 2; step 2 0 0 0 0 5 = 3",
             "step 2 0 0 0 0 5 = 4; step 2 0 0 0 0 5 = 5; step 2 0 0 0 0 5 = 6; step 2 0 0 0 0 5 = 7; step 2 0 0 0 0 5 = 8",
             "step 2 0 0 0 0 5 = 9; step 2 0 0 0 0 5 = 10",
-            "step 2 11 1 0 0 0 = 11; step 2 7 0 0 0 0 = 12; step 2 10 0 0 0 0 = 13; step 2 8 -1 0 0 0 = 14; step 2 9 0 0 0 0 = 15",
-            "step 2 10 0 0 0 0 = 16; act 2 = -40; failed = 30; acted 0 = 300; acted 1 = 30; acted 2 = 0; acted 3 = 0; acted 4 = 0",
+            "step 2 11 1 0 0 0 = 11; step 2 7 0 0 0 0 = 12; step 2 10 0 0 0 0 = 13; step 2 8 -1 0 0 0 = 14; "
+                + "step 2 9 0 0 0 0 = 15",
+            "step 2 10 0 0 0 0 = 16; act 2 = -40; failed = 30; acted 0 = 300; acted 1 = 30; acted 2 = 0; acted 3 = 0; "
+                + "acted 4 = 0",
             "acted 5 = 1; field 1 5 = 0; get 0 0 = 0; trace 0 = 300; trace 1 = 514; trace 2 = 504; trace 3 = 100; told 0 5 = 0",
             "tank 4 8 = 0");
         house("50 301 steps in a last", runs, "step 2 7 0 0 0 0 = 0; step 2 6 24 0 0 0 = 1; step 2 9 0 0 0 0 = 2",
@@ -297,9 +306,9 @@ public final class ActsTest {
     private static void traces() {
         StringBuilder holds = new StringBuilder();
         for (int i = 0; i < 16; i++) holds.append("step 0 5 " + i % 6 + " 0 0 0 = " + i + "; ");
-        HatchHouse x = house("53 trace", holds + "trace -1 = 0; trace min = 0; trace max = 0; act 0 = 1; trace 0 = 510",
-            "trace 31 = 500; trace 30 = 501; trace 32 = 0; trace 60 = 0; failed = 0");
-        Script.on(x, "53 trace", "act 0 = 1; trace 59 = 504; trace 32 = 510; trace 31 = 500; trace 60 = 0; trace 61 = 0",
+        house("53 trace", holds + "trace -1 = 0; trace min = 0; trace max = 0; act 0 = 1; trace 0 = 510",
+            "trace 31 = 500; trace 30 = 501; trace 32 = 0; trace 60 = 0; failed = 0",
+            "act 0 = 1; trace 59 = 504; trace 32 = 510; trace 31 = 500; trace 60 = 0; trace 61 = 0",
             "trace 0 = 510; trace 1 = 511; act 0 = 1; trace 59 = 504; trace 15 = 513; trace 16 = 503");
         house("53 trace numbers", "card = 9; step 0 4 9 0 0 0 = 0; step 0 5 5 0 0 0 = 1; step 0 7 0 0 0 0 = 2",
             "step 0 6 29 0 0 0 = 3; step 0 8 29 0 0 0 = 4; step 0 9 0 0 0 0 = 5; step 0 10 0 0 0 0 = 6; act 0 = 1; trace 5 = 109",
@@ -308,14 +317,9 @@ public final class ActsTest {
 
     /** Blocks as deep as plans allow. */
     private static void deepest() {
-        HatchHouse x = new HatchHouse();
-        x.row(4, 3);
-        for (int plan = 0; plan < 4; plan++) {
-            int deep = plan == 0 ? 12 : 11;
-            for (int i = 0; i < deep; i++) x.step(plan, 7, 0, 0, 0, 0);
-            if (plan > 0) x.step(plan, 11, plan - 1, 0, 0, 0);
-            for (int i = 0; i < deep; i++) x.step(plan, 10, 0, 0, 0, 0);
-        }
-        Script.on(x, "50 deepest blocks", "act 3 = 1; acted 0 = 48");
+        Script.run("50 deepest blocks", "12 * step 0 7 0 0 0 0 = #; 12 * step 0 10 0 0 0 0 = #+12",
+            "11 * step 1 7 0 0 0 0 = #; step 1 11 0 0 0 0 = 11; 11 * step 1 10 0 0 0 0 = #+12",
+            "11 * step 2 7 0 0 0 0 = #; step 2 11 1 0 0 0 = 11; 11 * step 2 10 0 0 0 0 = #+12",
+            "11 * step 3 7 0 0 0 0 = #; step 3 11 2 0 0 0 = 11; 11 * step 3 10 0 0 0 0 = #+12", "act 3 = 1; acted 0 = 48");
     }
 }

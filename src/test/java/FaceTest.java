@@ -14,12 +14,14 @@ import java.util.regex.Pattern;
 
 /** The public face, and the rules of the language that can be seen in the class and its source. */
 public final class FaceTest {
-    private static final List<String> CONSTANT_TYPES = List.of("int", "long", "boolean", "char", "[I", "[J", "[C", "[B", "java.lang.String");
+    private static final List<String> CONSTANT_TYPES = List.of("int", "long", "boolean", "char", "[I", "[J", "[C", "[B",
+        "java.lang.String");
     private static final List<String> FORBIDDEN = List.of("throw", "throws", "try", "catch", "synchronized", "assert", "package",
         "Double", "Float", "Object", "instanceof", "native", "strictfp", "volatile", "enum", "record", "var");
     private static final Set<String> LIBRARY = Set.of("Math.max", "Math.min", "Math.abs", "Arrays.fill", "System.arraycopy",
         "Long.numberOfLeadingZeros", "Long.numberOfTrailingZeros");
-    private static final String FACE = "row(int,int)int put(int,int,long)int get(int,int)long grid(int,int,int)int tray(int,int)int setTray(int,int,int)int "
+    private static final String FACE = "row(int,int)int put(int,int,long)int get(int,int)long grid(int,int,int)int "
+        + "tray(int,int)int setTray(int,int,int)int "
         + "cell(int,int,int)long raise(int,int,int,long,boolean)long move(int,int,int,int,int)int net(int,int)int "
         + "fish(int,int,int,int)int putIn(int,int,int)int letOut(int,int,int)int pass(int,int,int,int,int)int passed()int "
         + "mesh(int,int)int says(int,int,int)long grams(int,int)int card()int field(int,int)long setField(int,int,long)int "
@@ -70,10 +72,12 @@ public final class FaceTest {
         Set<String> constants = new TreeSet<>();
         for (Field f : c.getDeclaredFields()) {
             if (Modifier.isPrivate(f.getModifiers())) continue;
-            due(Modifier.toString(f.getModifiers()).equals("public static final") && f.getType() == int.class, f + " is a constant");
+            due(Modifier.toString(f.getModifiers()).equals("public static final") && f.getType() == int.class, f
+                + " is a constant");
             constants.add(f.getName() + f.getInt(null));
         }
-        due(constants.equals(Set.of("NONE-1", "BAD-1", "FULL-2", "LACK-3")), "the constants are those of the document: " + constants);
+        due(constants.equals(Set.of("NONE-1", "BAD-1", "FULL-2", "LACK-3")), "the constants are those of the document: "
+            + constants);
     }
 
     private static List<Class<?>> withInner() {

@@ -56,8 +56,10 @@ final class Model {
         @Override public long appetite(int n) { return super.appetite(n) - 1; }
         @Override public int grams() { return grams; }
     }
-    static final Class<?>[] KINDS = {Fish.class, Trout.class, Rainbow.class, Char.class, Splake.class, Eats.class, Bears.class, Priced.class};
-    static final Class<?>[] LANES = {boolean.class, byte.class, short.class, char.class, int.class, long.class, float.class, double.class};
+    static final Class<?>[] KINDS = {Fish.class, Trout.class, Rainbow.class, Char.class, Splake.class, Eats.class, Bears.class,
+        Priced.class};
+    static final Class<?>[] LANES = {boolean.class, byte.class, short.class, char.class, int.class, long.class, float.class,
+        double.class};
 
     static final class Row { Object items; }
     static final class Grid { int lane; Row[] trays; }
@@ -285,7 +287,8 @@ final class Model {
             bad(a != null && a == b);
             passed = 0;
             Object[] source = need(a, Net.class).meshes, goal = need(b, Net.class).meshes;
-            if (i < 0 || j < 0 || n < 0 || (long) i + n > source.length || (long) j + n > goal.length) throw new IndexOutOfBoundsException();
+            if (i < 0 || j < 0 || n < 0 || (long) i + n > source.length || (long) j
+                + n > goal.length) throw new IndexOutOfBoundsException();
             while (passed < n) {
                 goal[j + passed] = source[i + passed];
                 source[i + passed] = null;

@@ -9,18 +9,24 @@ import java.util.Random;
 public final class ModelTest {
     /**
      * The calls and what their numbers are: t a thing, r a row, g a grid, n a net, f a fish, c a card, l a lane, k a kind, s a
-     * size, i an index, S a step's sort, b bits, v a long, w and q which of what is told, T a tank, p a probe, P a plan, d a small number, o yes or no.
+     * size, i an index, S a step's sort, b bits, v a long, w and q which of what is told, T a tank, p a probe, P a plan,
+     * d a small number, o yes or no.
      */
     private static final String[] CALLS = {
         "row l s", "put r i b", "get r i", "grid l s s", "tray g i", "setTray g i r", "cell g i i", "raise g i i v o",
         "move r i r i s", "net k s", "fish k d f f", "putIn n i f", "letOut n i k", "pass n i n i s", "passed", "mesh n i",
-        "says f q d", "grams f d", "card", "field c i", "setField c i b", "setField c w c", "along c", "copy t o", "match t t", "told t w", "as f k",
+        "says f q d", "grams f d", "card", "field c i", "setField c i b", "setField c w c", "along c", "copy t o", "match t t",
+            "told t w", "as f k",
         "reading r q o", "test r i i q o", "probes T r", "trust T p o", "reason T p", "value T", "wish T q b", "setting T",
         "minute", "trays T g", "eggs T i i d o", "warm T d", "swim T", "died T d q", "treat T d", "sell T d", "shift T T d",
-        "day d", "tank T w", "kin f f o", "step P S t i t v", "wipe P", "act P", "answer", "acted w", "trace i", "failed", "count w"};
-    private static final int[] EDGES = {Integer.MIN_VALUE, Integer.MAX_VALUE, -2, -100, 17, 120, 121, 1000, 1001, 100000, 100001, 1000000, 1000001};
-    private static final double[] REALS = {0.0, -0.0, 1.0, -1.0, 2.5, 7.0, 6.5, 4.25, 5.0, 3.0, 19.999, 20.0, 21.5, 100.0, 1e300, -1e300,
-        Double.MAX_VALUE, -Double.MAX_VALUE, Double.MIN_VALUE, Double.MIN_NORMAL, 1.0 / 3, Double.POSITIVE_INFINITY, Double.NEGATIVE_INFINITY, Double.NaN};
+        "day d", "tank T w", "kin f f o", "step P S t i t v", "wipe P", "act P", "answer", "acted w", "trace i", "failed",
+            "count w"};
+    private static final int[] EDGES = {Integer.MIN_VALUE, Integer.MAX_VALUE, -2, -100, 17, 120, 121, 1000, 1001, 100000, 100001,
+        1000000, 1000001};
+    private static final double[] REALS = {0.0, -0.0, 1.0, -1.0, 2.5, 7.0, 6.5, 4.25, 5.0, 3.0, 19.999, 20.0, 21.5, 100.0, 1e300,
+        -1e300,
+        Double.MAX_VALUE, -Double.MAX_VALUE, Double.MIN_VALUE, Double.MIN_NORMAL, 1.0 / 3, Double.POSITIVE_INFINITY,
+            Double.NEGATIVE_INFINITY, Double.NaN};
 
     private final Random random;
     private final Map<String, Method> house = methods(HatchHouse.class);
@@ -213,9 +219,11 @@ public final class ModelTest {
         int n = x.told(row, 2);
         for (int k = pick(4); k > 0 && n > 0; k--) {
             double d = rarely(6) ? REALS[pick(REALS.length)] : 4 + random.nextInt(20) / 4.0;
-            both("put", row, pick(n), x.told(row, 1) == 6 ? (long) Float.floatToRawIntBits((float) d) : Double.doubleToRawLongBits(d));
+            both("put", row, pick(n), x.told(row,
+                1) == 6 ? (long) Float.floatToRawIntBits((float) d) : Double.doubleToRawLongBits(d));
         }
-        if (rarely(3)) both("wish", tank, pick(4), Double.doubleToRawLongBits(rarely(5) ? REALS[pick(REALS.length)] : random.nextInt(60) / 4.0));
+        if (rarely(3)) both("wish", tank, pick(4),
+            Double.doubleToRawLongBits(rarely(5) ? REALS[pick(REALS.length)] : random.nextInt(60) / 4.0));
         both("minute");
         for (int p = 0; p < 16; p++) both("reason", tank, p);
         both("setting", tank);
@@ -235,7 +243,8 @@ public final class ModelTest {
     }
 
     private void tankLife() throws Exception {
-        String[] calls = {"eggs T i i d o", "eggs 0 i i d 0", "warm T 400", "swim T", "died T 1 w", "sell T d", "shift T T d", "shift 0 T 5",
+        String[] calls = {"eggs T i i d o", "eggs 0 i i d 0", "warm T 400", "swim T", "died T 1 w", "sell T d", "shift T T d",
+            "shift 0 T 5",
             "treat T d", "treat T 3", "day 1", "day d", "trays T g", "setTray g i r", "died 0 2 1", "sell 0 3", "put r i v"};
         oneCall(calls[pick(calls.length)]);
     }

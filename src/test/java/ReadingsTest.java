@@ -28,7 +28,8 @@ public final class ReadingsTest {
             "reading 0 1 no = -0.0d",
             "put 0 1 -0.0d = 1; put 0 2 -0.0d = 1; reading 0 2 no = 0.0d; reading 0 4 no = 0.0d; put 0 2 0.0d = 1",
             "reading 0 4 no = -0.0d; put 0 0 7.0d = 1; reading 0 3 no = 0.0d");
-        Script.run("28 endless", "row 7 2 = 0; put 0 0 inf = 1; reading 0 0 no = 0.0d; reading 0 1 no = inf; reading 0 2 no = inf",
+        Script.run("28 endless", "row 7 2 = 0; put 0 0 inf = 1; reading 0 0 no = 0.0d; reading 0 1 no = inf; "
+            + "reading 0 2 no = inf",
             "reading 0 4 no = inf; put 0 1 -inf = 1; reading 0 2 no = NaN ! 0; reading 0 4 no = inf; reading 0 3 no = -inf",
             "put 0 1 inf = 1; reading 0 4 no = NaN ! 0; reading 0 2 no = inf",
             "put 0 0 1.7976931348623157E308d = 1; put 0 1 1.7976931348623157E308d = 1; reading 0 2 no = inf",
@@ -42,7 +43,8 @@ public final class ReadingsTest {
             "put 0 1 0.2d = 1; put 0 2 0.3d = 1; reading 0 2 no = 0.20000000000000004d");
         Script.run("28 middle", "row 7 4 = 0; put 0 0 4.0d = 1; put 0 1 3.0d = 1; put 0 2 2.0d = 1; put 0 3 1.0d = 1",
             "reading 0 3 no = 2.0d; reading 0 1 no = 4.0d; reading 0 0 no = 1.0d; put 0 1 5.0d = 1; reading 0 1 no = 5.0d",
-            "put 0 1 0.5d = 1; reading 0 0 no = 0.5d; put 0 1 3.0d = 1; put 0 3 NaN = 1; reading 0 3 yes = 3.0d; put 0 0 -inf = 1",
+            "put 0 1 0.5d = 1; reading 0 0 no = 0.5d; put 0 1 3.0d = 1; put 0 3 NaN = 1; reading 0 3 yes = 3.0d; "
+                + "put 0 0 -inf = 1",
             "reading 0 3 yes = 2.0d");
         Script.run("28 sixteen", "row 7 16 = 0", "16 * put 0 # #.5d = 1", "reading 0 0 no = 0.5d; reading 0 1 no = 15.5d",
             "reading 0 2 no = 8.0d; reading 0 3 no = 7.5d; reading 0 4 no = -1.0d");

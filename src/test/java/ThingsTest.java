@@ -19,7 +19,8 @@ public final class ThingsTest {
     }
 
     private static void newObject() {
-        Script.run("1 new", "count 0 = 0; count 1 = 0; count 2 = 0; count 3 = 0; count 4 = 0; count 5 = 0; count 6 = 0; failed = 0",
+        Script.run("1 new", "count 0 = 0; count 1 = 0; count 2 = 0; count 3 = 0; count 4 = 0; count 5 = 0; count 6 = 0; "
+            + "failed = 0",
             "passed = 0; answer = 0; trace 0 = 0", "6 * acted # = 0", "6 * tank # 0 = 0; 6 * tank # 1 = 0; 6 * tank # 3 = -1",
             "6 * tank # 9 = -1; 6 * tank # 10 = -1; 6 * setting # = 0", "16 * reason 0 # = 0", "put 0 0 1 = -1; value 0 = 0 ! 1");
     }
@@ -210,10 +211,8 @@ public final class ThingsTest {
             "setField 0 8 -1 = 1; along 1 = 3; along 1 = 3",
             "row 4 1 = 3; along 3 = -13; along -1 = -11; along 4 = -1; failed = -1");
         Script.run("23 along all", "120 * card = #", "119 * setField # 8 119 = 1", "along 0 = 2; along 119 = 1");
-        HatchHouse x = new HatchHouse();
-        for (int i = 0; i < 120; i++) x.card();
-        for (int i = 0; i < 119; i++) x.setField(i, 8, i + 1);
-        Script.on(x, "23 along a long chain", "along 0 = 120; setField 119 8 60 = 1; along 0 = -220; along 60 = -160",
+        Script.run("23 along a long chain", "120 * card = #", "119 * setField # 8 #+1 = 1",
+            "along 0 = 120; setField 119 8 60 = 1; along 0 = -220; along 60 = -160",
             "setField 119 8 0 = 1; along 7 = -220");
     }
 
@@ -235,9 +234,11 @@ public final class ThingsTest {
 
     private static void matches() {
         Script.run("25 match rows", "row 7 2 = 0; row 7 2 = 1; match 0 1 = 1; put 0 0 -0.0d = 1; match 0 1 = 0",
-            "put 0 0 0x7ff0000000000007 = 1; put 1 0 NaN = 1; match 0 1 = 1; row 7 3 = 2; match 0 2 = 0; row 5 2 = 3; row 5 2 = 4",
+            "put 0 0 0x7ff0000000000007 = 1; put 1 0 NaN = 1; match 0 1 = 1; row 7 3 = 2; match 0 2 = 0; row 5 2 = 3; "
+                + "row 5 2 = 4",
             "match 3 4 = 1; row 6 2 = 5; match 3 5 = 0; match 5 5 = 1; match 0 1 = 1; put 1 1 1.0d = 1; match 0 1 = 0",
-            "match 0 -1 = -11; match -1 0 = -11; match -1 -1 = -11; match 0 6 = -1; match 6 -1 = -1; match -2 0 = -1; failed = -1");
+            "match 0 -1 = -11; match -1 0 = -11; match -1 -1 = -11; match 0 6 = -1; match 6 -1 = -1; match -2 0 = -1; "
+                + "failed = -1");
         Script.run("25 match grids", "grid 4 2 2 = 2; grid 4 2 2 = 5; match 2 5 = 1; put 0 1 4 = 1; match 2 5 = 0; put 3 1 4 = 1",
             "match 5 2 = 1; setTray 2 1 -1 = 1; match 2 5 = 0; match 5 2 = 0; setTray 5 1 -1 = 1; match 2 5 = 1; row 4 3 = 6",
             "setTray 5 0 6 = 1; match 2 5 = 0",
@@ -259,8 +260,8 @@ public final class ThingsTest {
     }
 
     private static void full() {
-        HatchHouse x = Script.run("2 to 24 full", "118 * row 4 1 = #", "grid 4 1 1 = 119; count 0 = 120");
-        Script.on(x, "2 to 24 full", "row 4 1 = -2; failed = -2; row 4 17 = -1; row 4 -1 = -2; grid 4 1 1 = -2; grid 4 0 -1 = -2",
+        Script.run("2 to 24 full", "118 * row 4 1 = #", "grid 4 1 1 = 119; count 0 = 120",
+            "row 4 1 = -2; failed = -2; row 4 17 = -1; row 4 -1 = -2; grid 4 1 1 = -2; grid 4 0 -1 = -2",
             "grid 4 9 1 = -1; grid 4 -1 -1 = -2; net 0 1 = -2; net 0 -1 = -2; net 8 1 = -1; card = -2; failed = -2",
             "fish 1 1 -1 -1 = -2; fish 1 1 0 -1 = -2; fish 1 1 120 -1 = -1; fish 0 1 -1 -1 = -1; copy 0 no = -2",
             "copy 119 yes = -2; copy -1 no = -11; copy 120 no = -1; count 0 = 120; get 119 0 = 0 ! 3");
