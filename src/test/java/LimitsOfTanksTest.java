@@ -11,6 +11,7 @@ public final class LimitsOfTanksTest {
         trust();
         values();
         wishes();
+        wishesAtFirst();
         minutesOfNothing();
         out();
         stuck();
@@ -110,6 +111,15 @@ public final class LimitsOfTanksTest {
             + "wish 0 3 NaN = BAD; minute = 0; setting 0 = 8.0d");
         Script.run("34: of this TANK alone", "row 7 1 = 0; put 0 0 NaN = 1; probes 0 0 = 1; probes 1 0 = 1; wish 0 3 8.0d = 1; "
             + "minute = 0; setting 0 = 8.0d; setting 1 = 0.0d");
+    }
+
+    private static void wishesAtFirst() {
+        String one = "row 7 1 = 0; probes 0 0 = 1; put 0 0 -5.0d = 1; ";
+        Script.run("34: WISH is 0.0 at first", one, "wish 0 1 1.0d = 1; wish 0 2 50.0d = 1; minute = 0; setting 0 = 5.0d");
+        Script.run("34: GAIN is 0.0 at first", one, "wish 0 0 8.0d = 1; wish 0 2 50.0d = 1; minute = 0; setting 0 = 0.0d");
+        Script.run("34: RATE is 0.0 at first", one, "wish 0 0 8.0d = 1; wish 0 1 1.0d = 1; minute = 0; setting 0 = 0.0d");
+        Script.run("34: SAFE is 0.0 at first", one, "wish 0 1 1.0d = 1; wish 0 2 50.0d = 1; minute = 0; setting 0 = 5.0d",
+            "put 0 0 NaN = 1; minute = 0; setting 0 = 0.0d");
     }
 
     private static void minutesOfNothing() {

@@ -6,6 +6,7 @@ public final class LimitsOfThingsTest {
 
     public static void main(String[] args) {
         newObjects();
+        twoObjects();
         whatIsNoThing();
         whatIsNone();
         lanes();
@@ -56,6 +57,27 @@ public final class LimitsOfThingsTest {
         Script.run("1: nothing was passed, answered, acted, traced, refused",
             "failed = 0; passed = 0; answer = 0; 6 * acted # = 0",
             "61 * trace # = 0");
+    }
+
+    /** A new object has nothing of another one, and leaves it alone. */
+    private static void twoObjects() {
+        HatchHouse one = new HatchHouse();
+        one.row(4, 1);
+        one.put(0, 0, 5);
+        one.day(3);
+        one.minute();
+        one.step(0, 12, 0, 0, 0, 7);
+        one.act(0);
+        one.trust(0, 0, false);
+        one.warm(0, 9);
+        HatchHouse other = new HatchHouse();
+        boolean isNew = other.count(0) == 0 && other.count(1) == 0 && other.count(2) == 0 && other.count(3) == 0
+            && other.answer() == 0 && other.acted(0) == 0 && other.reason(0, 0) == 0 && other.tank(0, 1) == 0;
+        other.row(4, 1);
+        other.put(0, 0, 6);
+        if (isNew && one.get(0, 0) == 5 && one.count(0) == 1 && one.count(1) == 3 && one.answer() == 7) return;
+        System.out.println("1: two objects are not apart");
+        System.exit(1);
     }
 
     private static void whatIsNoThing() {
