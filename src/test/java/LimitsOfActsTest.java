@@ -585,6 +585,11 @@ public final class LimitsOfActsTest {
         act("50: ANSWER", "PUT 0 0 1, ANSWER 5", "act 0 = 2; get 0 0 = 1; acted 5 = 0");
         act("50: THE TRACE", "TAKE 0, FAIL 20", "act 0 = F20; trace 0 = 300; trace 1 = 100; act 0 = F20; trace 2 = 300; "
             + "trace 3 = 100");
+        act("50: what the ACT did not change", "PUT 0 1 1, RAISE 1 5 1, FAIL 20", "put 0 0 7 = 1; setField 1 4 8 = 1; act 0 = F20; "
+            + "get 0 0 = 7; field 1 4 = 8; putIn 4 0 2 = 1; act 0 = F20; mesh 4 0 = 2; get 0 0 = 7");
+        Script.run("50: what an earlier ACT changed, and a call since", HOUSE, plan(0, "PUT 0 0 1, PUT 0 1 1, PUT 0 2 1"),
+            plan(1, "PUT 0 0 2, FAIL 20"), "act 0 = 1; put 0 1 9 = 1; put 0 2 8 = 1; act 1 = F20; get 0 0 = 1; get 0 1 = 9",
+            "get 0 2 = 8");
         act("50: earlier acts, calls", "PUT 0 0 5, FAIL 20", "put 0 1 6 = 1; act 0 = F20; get 0 1 = 6; put 0 0 4 = 1; "
             + "act 0 = F20; get 0 0 = 4");
         act("50: what is told of it", "BEGIN, FAIL 20, CATCH 20, LAST, END, FAIL 21",

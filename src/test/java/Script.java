@@ -12,7 +12,8 @@ import java.util.regex.Pattern;
  * be a refusal by its name instead (BAD, FULL, LACK, NULL, .. SPENT, F20 .. F29): then the answer is its code, or 0 as a long.
  *
  * Behind each call these are tested without being told: that failed() has the refusal, or 0 ('! n' tells it where a number is due);
- * that a call which is refused, or only looks, has changed nothing that can be seen (but where the document says so).
+ * that a call which is refused, or only looks, has changed nothing that can be seen (but where the document says so); that an act
+ * which was undone has left the house as it was.
  */
 final class Script {
     private static final Map<String, Integer> REFUSALS = Map.ofEntries(Map.entry("BAD", -1), Map.entry("FULL", -2),
@@ -128,10 +129,12 @@ final class Script {
         look(call, text, quiet ? 0 : failed);
     }
 
-    /** Whether nothing has changed by the latest call, if it was refused or only looks. */
+    /** Whether nothing has changed by the latest call, if it was refused, only looks, or was undone. */
     private void look(Call call, String text, long failed) {
         String of = call.method().getName();
-        boolean mayChange = failed > 0 && (of.equals("act") || of.equals("pass"));
+        boolean acted = of.equals("act") && failed >= 0;
+        if (acted && house.acted(5) == 1) lookAtTheHouse(call, text);
+        boolean mayChange = acted || (failed > 0 && of.equals("pass"));
         boolean still = LOOKS.contains(of) || (failed != 0 && !mayChange);
         List<Long> ahead = still && seen == null ? Sight.of(done) : seen;
         done.add(call);
@@ -139,6 +142,14 @@ final class Script {
         if (!still || seen.equals(ahead)) return;
         wrong++;
         System.out.println(name + ": " + text + " has changed what can be seen");
+    }
+
+    private void lookAtTheHouse(Call act, String text) {
+        List<Call> with = new ArrayList<>(done);
+        with.add(act);
+        if (Sight.ofTheHouse(done).equals(Sight.ofTheHouse(with))) return;
+        wrong++;
+        System.out.println(name + ": " + text + " was undone, but has changed the house");
     }
 
     /** Runs lines on a new object; 'n * line' runs one n times, in which # is the number of the turn, #+5 five more. */

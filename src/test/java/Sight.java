@@ -13,12 +13,19 @@ final class Sight {
     private Sight() { }
 
     static List<Long> of(List<Script.Call> calls) {
+        List<Long> out = ofTheHouse(calls);
+        look(calls, ofTheDesk(), out);
+        out.addAll(answers(calls, ofActs("trace", 0)));
+        return out;
+    }
+
+    /** All but what is told of the latest calls and acts. */
+    static List<Long> ofTheHouse(List<Script.Call> calls) {
         List<Long> out = new ArrayList<>();
         look(calls, ofThings(calls), out);
         look(calls, ofTanks(), out);
-        look(calls, ofTheDesk(), out);
         out.addAll(answers(calls, ofMinutes()));
-        out.addAll(answers(calls, ofActs()));
+        out.addAll(answers(calls, ofActs("acted", 5)));
         return out;
     }
 
@@ -90,13 +97,12 @@ final class Sight {
         return looks;
     }
 
-    private static List<Script.Call> ofActs() {
+    /** Acts by all plans, and what is told of them: acted() from 0 on, or the latest of the trace. */
+    private static List<Script.Call> ofActs(String told, int last) {
         List<Script.Call> looks = new ArrayList<>();
         for (int plan = 0; plan < PLANS; plan++) {
             looks.add(Script.Call.of("act", plan));
-            looks.add(Script.Call.of("answer"));
-            for (int what = 0; what < 6; what++) looks.add(Script.Call.of("acted", what));
-            for (int i = 0; i < 8; i++) looks.add(Script.Call.of("trace", i));
+            for (int what = 0; what <= last; what++) looks.add(Script.Call.of(told, what));
         }
         return looks;
     }
