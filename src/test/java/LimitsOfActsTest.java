@@ -7,7 +7,8 @@ public final class LimitsOfActsTest {
      * of grid 7, of tank 0 (the second is pulled out), row 8 (a long); 9 is no THING.
      */
     private static final String HOUSE = "row 4 3 = 0; card = 1; fish 1 10 -1 -1 = 2; fish 3 20 -1 -1 = 3; net 1 2 = 4; "
-        + "net 0 2 = 5; putIn 5 0 2 = 1; putIn 5 1 3 = 1; row 4 2 = 6; grid 4 2 -1 = 7; setTray 7 0 6 = 1; trays 0 7 = 1; row 5 1 = 8; ";
+        + "net 0 2 = 5; putIn 5 0 2 = 1; putIn 5 1 3 = 1; row 4 2 = 6; grid 4 2 -1 = 7; setTray 7 0 6 = 1; trays 0 7 = 1; "
+            + "row 5 1 = 8; ";
     private static final List<String> SORTS = List.of("PUT", "RAISE", "GO", "EGGS", "TAKE", "HOLD", "FAIL", "BEGIN", "CATCH",
         "LAST", "END", "RUN", "ANSWER");
 
@@ -216,13 +217,14 @@ public final class LimitsOfActsTest {
             + "get 2 0 = -1; get 3 0 = 65535; get 4 0 = -1; get 5 0 = -1; get 6 0 = 0x7fc00000; get 7 0 = NaN");
     }
 
-    /** STEPS that fail each by itself, as the last of a PLAN: all that was done ahead of it is undone. */
+    /** STEPS that fail, each by itself: all that was done ahead of one is undone, or, if it is taken, it has done nothing. */
     private static void refusals(String name, String[][] due) {
         for (String[] pair : due) {
             act("50: " + name + ": " + pair[0], "PUT 8 0 77, " + pair[0], "act 0 = " + pair[1]
                 + "; get 8 0 = 0; acted 0 = 2; acted 2 = 0; acted 3 = 0; acted 4 = 0; acted 5 = 1; trace 0 = 0");
             act("50: " + name + ", taken: " + pair[0], "PUT 8 0 77, BEGIN, " + pair[0] + ", PUT 8 0 78, CATCH -1, END",
                 "act 0 = 1; get 8 0 = 77; acted 0 = 3; acted 1 = 0; acted 3 = 1; acted 5 = 0");
+            act("50: " + name + ", and nothing else: " + pair[0], "BEGIN, " + pair[0] + ", CATCH -1, END", "still act 0 = 1");
         }
     }
 
@@ -585,7 +587,8 @@ public final class LimitsOfActsTest {
         act("50: ANSWER", "PUT 0 0 1, ANSWER 5", "act 0 = 2; get 0 0 = 1; acted 5 = 0");
         act("50: THE TRACE", "TAKE 0, FAIL 20", "act 0 = F20; trace 0 = 300; trace 1 = 100; act 0 = F20; trace 2 = 300; "
             + "trace 3 = 100");
-        act("50: what the ACT did not change", "PUT 0 1 1, RAISE 1 5 1, FAIL 20", "put 0 0 7 = 1; setField 1 4 8 = 1; act 0 = F20; "
+        act("50: what the ACT did not change", "PUT 0 1 1, RAISE 1 5 1, FAIL 20",
+            "put 0 0 7 = 1; setField 1 4 8 = 1; act 0 = F20; "
             + "get 0 0 = 7; field 1 4 = 8; putIn 4 0 2 = 1; act 0 = F20; mesh 4 0 = 2; get 0 0 = 7");
         Script.run("50: what an earlier ACT changed, and a call since", HOUSE, plan(0, "PUT 0 0 1, PUT 0 1 1, PUT 0 2 1"),
             plan(1, "PUT 0 0 2, FAIL 20"), "act 0 = 1; put 0 1 9 = 1; put 0 2 8 = 1; act 1 = F20; get 0 0 = 1; get 0 1 = 9",

@@ -282,6 +282,10 @@ public final class LimitsOfTanksTest {
         Script.run("36: -0.0 is not below 0.0", one, "wish 0 3 -0.0d = 1; put 0 0 NaN = 1; minute = 0; setting 0 = -0.0d; "
             + "wish 0 0 5.0d = 1; put 0 0 5.0d = 1; minute = 0; setting 0 = 0.0d");
         Script.run("36: no number by u: SAFE", one, "wish 0 0 5.0d = 1; wish 0 1 inf = 1; minute = 0; setting 0 = 33.0d");
+        Script.run("36: no number by endless times 0.0: SAFE", one, "wish 0 0 inf = 1; wish 0 1 0.0d = 1; minute = 0; "
+            + "setting 0 = 33.0d");
+        Script.run("36: no number by endless times -0.0: SAFE", one, "wish 0 0 -inf = 1; wish 0 1 -0.0d = 1; minute = 0",
+            "setting 0 = 33.0d");
         Script.run("36: no number by WISH less v: SAFE", one, "wish 0 0 -inf = 1; put 0 0 -inf = 1; minute = 0; "
             + "setting 0 = 33.0d");
         Script.run("36: no number by the sum: SAFE", one, "wish 0 3 -inf = 1; put 0 0 NaN = 1; minute = 0; setting 0 = -inf; "

@@ -615,6 +615,8 @@ public final class LimitsOfThingsTest {
         Script.run("26: what is 0 to 5", ZOO, "told 0 -1 = BAD; told 0 6 = BAD; told 0 max = BAD; told 0 min = BAD; "
             + "told -1 6 = BAD; told -1 -1 = BAD; told 6 0 = BAD; told 6 6 = BAD",
             "told -1 0 = NULL; told -1 5 = NULL");
+        Script.run("26: BAD: no THING, whatever is asked", ZOO, "6 * told 6 # = BAD; 6 * told -2 # = BAD; 6 * told 119 # = BAD",
+            "6 * told 120 # = BAD; 6 * told max # = BAD; 6 * told min # = BAD; 6 * told -1 # = NULL");
         Script.run("26: of each SORT", ZOO, "told 0 0 = 0; told 2 0 = 1; told 3 0 = 2; told 4 0 = 3; told 5 0 = 4; told 0 1 = 4; "
             + "told 2 1 = 4; told 3 1 = 0; told 4 1 = 1; told 5 1 = -1",
             "told 0 2 = 3; told 2 2 = 1; told 3 2 = 2; told 4 2 = 0; told 5 2 = 0; 6 * told # 3 = -1; 6 * told # 4 = -1; "

@@ -13,7 +13,7 @@ import java.util.regex.Pattern;
  *
  * Behind each call these are tested without being told: that failed() has the refusal, or 0 ('! n' tells it where a number is due);
  * that a call which is refused, or only looks, has changed nothing that can be seen (but where the document says so); that an act
- * which was undone has left the house as it was.
+ * which was undone has left the house as it was. Ahead of other calls 'still' asks for that, too.
  */
 final class Script {
     private static final Map<String, Integer> REFUSALS = Map.ofEntries(Map.entry("BAD", -1), Map.entry("FULL", -2),
@@ -110,7 +110,8 @@ final class Script {
     }
 
     private void one(String line) {
-        String[] halves = line.split(" = ");
+        boolean still = line.startsWith("still ");
+        String[] halves = line.substring(still ? 6 : 0).split(" = ");
         String text = halves[0].trim();
         String[] answer = halves[1].trim().split(" ! ");
         Call call = parsed(text.split(" +"));
@@ -126,6 +127,7 @@ final class Script {
         else if (answer.length > 1) due("failed() behind " + text, failed, number(answer[1].trim()));
         else if (got >= 0 || answer[0].trim().equals("NONE")) due("failed() behind " + text, failed, 0);
         if (!quiet && failed != 0) due(text + " (by failed())", got, told(call, (int) failed));
+        if (still) lookAtTheHouse(call, text);
         look(call, text, quiet ? 0 : failed);
     }
 
@@ -133,8 +135,10 @@ final class Script {
     private void look(Call call, String text, long failed) {
         String of = call.method().getName();
         boolean acted = of.equals("act") && failed >= 0;
-        if (acted && house.acted(5) == 1) lookAtTheHouse(call, text);
-        boolean mayChange = acted || (failed > 0 && of.equals("pass"));
+        boolean passFailed = of.equals("pass") && failed > 0;
+        // What was passed, acted and traced is told anew by these, but the house is as it was.
+        if ((acted && house.acted(5) == 1) || (passFailed && failed != REFUSALS.get("STORE"))) lookAtTheHouse(call, text);
+        boolean mayChange = acted || passFailed;
         boolean still = LOOKS.contains(of) || (failed != 0 && !mayChange);
         List<Long> ahead = still && seen == null ? Sight.of(done) : seen;
         done.add(call);
@@ -144,12 +148,12 @@ final class Script {
         System.out.println(name + ": " + text + " has changed what can be seen");
     }
 
-    private void lookAtTheHouse(Call act, String text) {
+    private void lookAtTheHouse(Call call, String text) {
         List<Call> with = new ArrayList<>(done);
-        with.add(act);
+        with.add(call);
         if (Sight.ofTheHouse(done).equals(Sight.ofTheHouse(with))) return;
         wrong++;
-        System.out.println(name + ": " + text + " was undone, but has changed the house");
+        System.out.println(name + ": " + text + " has changed the house");
     }
 
     /** Runs lines on a new object; 'n * line' runs one n times, in which # is the number of the turn, #+5 five more. */
