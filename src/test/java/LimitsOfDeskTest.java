@@ -22,6 +22,7 @@ public final class LimitsOfDeskTest {
         eachRefusal();
         answersThatLookLikeRefusals();
         counts();
+        allOf512Calls();
         Script.end();
     }
 
@@ -91,5 +92,19 @@ public final class LimitsOfDeskTest {
         Script.run("55: STEPS of PLAN 0 to 3", "24 * step 0 12 0 0 0 0 = #; step 0 12 0 0 0 0 = FULL; count 3 = 24; "
             + "step 1 12 0 0 0 0 = 0; step 2 7 0 0 0 0 = 0; step 2 10 0 0 0 0 = 1; 3 * step 3 11 # 0 0 0 = #; count 4 = 1; "
             + "count 5 = 2; count 6 = 3; act 3 = 1; count 6 = 3; wipe 0 = 24; count 3 = 0; count 4 = 1");
+    }
+
+    /** The 512th call is the last of which something is told. */
+    private static void allOf512Calls() {
+        HatchHouse x = new HatchHouse();
+        x.grid(4, 1, 1);
+        for (int i = 0; i < 510; i++) x.raise(1, 0, 0, 1, true);
+        long last = x.cell(1, 0, 0);
+        HatchHouse y = new HatchHouse();
+        y.step(0, 5, 1, 0, 0, 0);
+        for (int i = 0; i < 510; i++) y.act(0);
+        if (last == 510 && y.trace(59) == 501) return;
+        System.out.println("the 512th call answered " + last);
+        System.exit(1);
     }
 }
