@@ -1,10 +1,6 @@
-import java.io.ByteArrayOutputStream;
 import java.io.File;
-import java.io.PrintStream;
 import java.lang.reflect.Method;
 import java.lang.reflect.Modifier;
-import java.net.URL;
-import java.net.URLClassLoader;
 import java.nio.file.Files;
 import java.nio.file.Path;
 import java.util.ArrayList;
@@ -13,7 +9,6 @@ import java.util.List;
 import java.util.regex.Matcher;
 import java.util.regex.Pattern;
 import java.util.stream.Stream;
-import javax.tools.ToolProvider;
 
 /** README.md holds: its example tells what stands below it, its table has each call once, its tests are there. */
 public final class ReadmeTest {
@@ -44,27 +39,19 @@ public final class ReadmeTest {
         try {
             Path source = dir.resolve("Example.java");
             Files.writeString(source, block(readme, "java"));
-            int code = ToolProvider.getSystemJavaCompiler().run(null, null, null, "-d", dir.toString(), main, source.toString());
-            due(code == 0, "the example can't be compiled");
-            if (code != 0) return;
-            String told = toldBy(dir);
+            toldBy("javac", "-d", dir.toString(), main, source.toString());
+            String told = toldBy("java", "-cp", dir.toString(), "Example");
             due(told.equals(block(readme, "text")), "the example tells\n" + told);
         } finally {
             remove(dir);
         }
     }
 
-    private static String toldBy(Path dir) throws Exception {
-        PrintStream out = System.out;
-        ByteArrayOutputStream told = new ByteArrayOutputStream();
-        System.setOut(new PrintStream(told, true));
-        // The platform's loader as the parent: the example is to meet the class that was compiled with it.
-        try (URLClassLoader loader = new URLClassLoader(new URL[] {dir.toUri().toURL()}, ClassLoader.getPlatformClassLoader())) {
-            loader.loadClass("Example").getMethod("main", String[].class).invoke(null, (Object) new String[0]);
-        } finally {
-            System.setOut(out);
-        }
-        return told.toString().replace(System.lineSeparator(), "\n");
+    private static String toldBy(String... command) throws Exception {
+        Process process = new ProcessBuilder(command).redirectError(ProcessBuilder.Redirect.INHERIT).start();
+        String told = new String(process.getInputStream().readAllBytes());
+        due(process.waitFor() == 0, command[0] + " of the example ended in a fault");
+        return told.replace(System.lineSeparator(), "\n");
     }
 
     private static void remove(Path dir) throws Exception {
